@@ -754,7 +754,7 @@ public final class Veilbourse {
                 sum = 31L * sum + runs[i].numberAt(j);
             }
         }
-        for (int i = 0; i < ledger.count; i++) {
+        for (int i = 0; i < ledger.count && i < NOTES; i++) {
             sum = 31L * sum + ledger.notes[i];
         }
         return 31L * sum + circuit.count;
@@ -772,14 +772,21 @@ public final class Veilbourse {
             if (!runs[i].keepsItsWord() || !masksAreTrue(runs[i])) {
                 return false;
             }
-            for (int j = 0; j < RUNS; j++) {
-                if (runs[i].isForked(runs[j])
-                        && !runs[i].suits(made, runs[i].secretWith(runs[j], made))) {
+            for (int j = 0; j < i; j++) {
+                if (!forkIsTrue(runs[i], runs[j])) {
                     return false;
                 }
             }
         }
         return true;
+    }
+
+    private boolean forkIsTrue(Run first, Run second) {
+        if (!first.isForked(second)) {
+            return true;
+        }
+        int blind = first.secretWith(second, made);
+        return first.suits(made, blind);
     }
 
     /** Whether each row that fits has a mask that gives this very run. */

@@ -193,13 +193,20 @@ public final class PromiseTest {
 
     private static void fieldForgets() {
         Veilbourse x = withRow(3, 1, 2, 3);
-        x.state(2, 16, 3, 4);
-        x.open(2, 3, 1);
-        x.ask(2);
-        x.reply(2, 3, 1);
-        x.chooseBit(1, 1, 2);
-        x.hideBit(1, 1, 1, 1);
-        x.dareBit(1, 1);
+        for (int row = 0; row < 8; row++) {
+            x.put(row, row, 5);
+        }
+        for (int run = 0; run < 4; run++) {
+            x.state(run, 16, 3, 4);
+            x.open(run, 3, 1);
+            x.ask(run);
+            x.reply(run, 3, 1);
+        }
+        for (int pair = 0; pair < 2; pair++) {
+            x.chooseBit(pair, 1, 2);
+            x.hideBit(pair, 1, 1, 1);
+            x.dareBit(pair, 1);
+        }
         x.gate(3, 0, 0, 0);
         x.play(3, 6);
         x.send(3, 3);
@@ -207,8 +214,12 @@ public final class PromiseTest {
         Check.equal("field 2 again", x.field(2), 7);
         Check.that("all is as at first",
                 Check.snapshot(x).equals(Check.snapshot(new Veilbourse())));
-        state("the pair is forgotten", x, () -> x.hideBit(1, 1, 1, 1));
-        state("the run is forgotten", x, () -> x.fits(2, 0, 0));
+        state("pair 0 is forgotten", x, () -> x.hideBit(0, 1, 1, 1));
+        state("pair 1 is forgotten", x, () -> x.hideBit(1, 1, 1, 1));
+        for (int run = 0; run < 4; run++) {
+            int asked = run;
+            state("the run is forgotten", x, () -> x.fits(asked, 0, 0));
+        }
         Check.equal("a note begins at 0 again", x.mint(1, 1), 0);
         Check.that("the product of minted notes is forgotten", x.isTrue());
     }
@@ -418,6 +429,9 @@ public final class PromiseTest {
         Check.equal("isMixed with itself", x.isMixed(2, 2), true);
         Check.equal("isMixed, not as often", x.isMixed(0, 2), false);
         Check.equal("isMixed, the other way round", x.isMixed(2, 0), false);
+        put(x, 3, 5, 1, 1, 1, 1, 1, 1, 1);
+        put(x, 4, 6, 1, 1, 1, 1, 1, 1, 1);
+        Check.equal("isMixed, unlike only at 0", x.isMixed(3, 4), false);
         index("isMixed row", x, () -> x.isMixed(8, 0));
         index("isMixed other", x, () -> x.isMixed(0, -1));
     }
@@ -993,6 +1007,12 @@ public final class PromiseTest {
         state("fold without the first", x, () -> x.fold(3, 0, 1, 2));
         x.state(3, 1, 1, 0);
         state("fold of unlike forms", x, () -> x.fold(0, 3, 1, 2));
+        put(x, 4, 6, 2, 3);
+        x.state(3, 1, 4, 0);
+        state("fold of forms unlike at 0", x, () -> x.fold(0, 3, 1, 2));
+        put(x, 4, 1, 2, 3, 0, 0, 0, 0, 1);
+        x.state(3, 1, 4, 0);
+        state("fold of forms unlike at 7", x, () -> x.fold(0, 3, 1, 2));
         index("fold run", x, () -> x.fold(4, 3, 7, 2));
         index("fold second", x, () -> x.fold(0, -1, 7, 2));
         index("fold into", x, () -> x.fold(0, 3, 7, 4));
@@ -1225,6 +1245,22 @@ public final class PromiseTest {
         row("the table as it is then", x, 3, 6, 2, 6, 6, 0);
         Check.equal("faults into the values", x.faults(0, 0), 4);
         row("faults into the values", x, 0, 6, 2, 6, 6, 0);
+        x.ungate();
+        x.gate(4, 1, 5, 0);
+        put(x, 5, 2, 4, 4, 4, 4, 4, 4, 5);
+        put(x, 7, 0, 2);
+        Check.equal("in the table at 0", x.faults(7, 6), 0);
+        x.put(7, 1, 5);
+        Check.equal("in the table at 7", x.faults(7, 6), 0);
+        x.put(7, 1, 3);
+        Check.equal("not in the table", x.faults(7, 6), 1);
+        // 1 times -1 six times times -2.
+        row("not in the table", x, 6, 5);
+        x.ungate();
+        x.gate(4, 7, 0, 0);
+        put(x, 0, 3);
+        put(x, 5, 0, 0, 0, 0, 0, 0, 0, 3);
+        Check.equal("in the table row 0 at 0", x.faults(5, 6), 0);
         x.ungate();
         Check.equal("faults of no gate", x.faults(0, 0), 0);
         row("faults of no gate", x, 0);
@@ -1469,6 +1505,8 @@ public final class PromiseTest {
         x.mint(1, 1);
         x.mint(2, 2);
         index("merge no note", x, () -> x.merge(2, 2));
+        index("merge no first", x, () -> x.merge(2, 0));
+        index("merge first -1", x, () -> x.merge(-1, 0));
         index("merge no second", x, () -> x.merge(0, -1));
         argument("merge with itself", x, () -> x.merge(1, 1));
         Check.equal("merge", x.merge(0, 1), 2);
@@ -1478,10 +1516,11 @@ public final class PromiseTest {
         state("merge a spent one", x, () -> x.merge(0, 2));
         state("merge with a spent one", x, () -> x.merge(2, 1));
         argument("merge a spent one with itself", x, () -> x.merge(0, 0));
-        for (int i = 3; i < 16; i++) {
+        for (int i = 3; i < 15; i++) {
             x.mint(1, 1);
         }
-        state("merge of sixteen", x, () -> x.merge(2, 3));
+        Check.equal("merge to sixteen", x.merge(2, 3), 15);
+        state("merge of sixteen", x, () -> x.merge(4, 5));
     }
 
     // 69
