@@ -468,14 +468,76 @@ final class NoteBoundaries {
 
     // 74: in each state, and nothing is changed by it.
     private static void isTrue() {
-        for (Scenes.Scene scene : SCENES) {
-            for (int field = 0; field < 8; field++) {
-                Bounds.Setting setting = Bounds.in(field, scene);
-                Veilbourse x = Bounds.made(setting);
-                Check.equal("74: isTrue", x.isTrue(), true);
-                Check.that("74: nothing is changed",
-                        Probe.of(x).equals(Probe.of(Bounds.made(setting))));
+        for (int field = 0; field < 8; field++) {
+            for (Scenes.Scene scene : SCENES) {
+                trueIn(Bounds.in(field, scene));
             }
+            trueIn(withPaidNotes(field));
+            trueIn(withLostGame(field));
+            trueIn(withJoinedRuns(field));
+            trueIn(withAllThatCanBe(field));
         }
+    }
+
+    private static void trueIn(Bounds.Setting setting) {
+        Veilbourse x = Bounds.made(setting);
+        Check.equal("74: isTrue", x.isTrue(), true);
+        Check.equal("74: asked again", x.isTrue(), true);
+        Check.that("74: nothing is changed",
+                Probe.of(x).equals(Probe.of(Bounds.made(setting))));
+    }
+
+    private static Bounds.Setting withPaidNotes(int field) {
+        return x -> {
+            Bounds.in(field, Scenes::payable).set(x);
+            x.pay(0, 0);
+            x.pay(3, 1);
+            x.split(1, 2, 2);
+            x.merge(2, 4);
+        };
+    }
+
+    /** A wrong claim is sent on to the end, and does not meet the right one. */
+    private static Bounds.Setting withLostGame(int field) {
+        return x -> {
+            Bounds.in(field, Scenes::nothing).set(x);
+            x.play(0, 1);
+            for (int round = 0; round < 3; round++) {
+                x.send(1, 0);
+                x.draw(0);
+            }
+        };
+    }
+
+    private static Bounds.Setting withJoinedRuns(int field) {
+        return x -> {
+            Bounds.in(field, Scenes::answered).set(x);
+            x.fold(0, 1, 2, 0);
+            x.batch(1, 2, 2, 1);
+            x.fold(2, 3, 1, 2);
+            x.simulate(0, 2, 1, 2);
+            x.simulate(2, 1, 0, 0);
+        };
+    }
+
+    private static Bounds.Setting withAllThatCanBe(int field) {
+        return x -> {
+            Bounds.in(field, Scenes::payable).set(x);
+            x.state(3, x.told(2, 0), 7, x.told(2, 1));
+            x.open(3, 2, 1);
+            x.dare(3, (x.told(2, 4) + 1) % 3);
+            x.reply(3, 5, 1);
+            x.chooseBit(0, 1, 2);
+            x.hideBit(0, 1, 2, 1);
+            x.dareBit(0, 2);
+            x.gate(0, 0, 1, 2);
+            x.gate(4, 3, 4, 0);
+            x.play(3, 2);
+            x.send(2, 0);
+            x.draw(2);
+            x.pay(1, 1);
+            x.powers(2, 6);
+            x.breaks(5, 1, 3, 7);
+        };
     }
 }

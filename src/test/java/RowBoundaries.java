@@ -505,6 +505,22 @@ final class RowBoundaries {
                 x -> x.isMixed(2, 1));
         Bounds.answers(15, "the same ones, twice others", true, rows, x -> x.isMixed(2, 3));
         Bounds.answers(15, "with noughts alone", false, rows, x -> x.isMixed(7, 0));
+        for (int place = 0; place < 8; place++) {
+            int other = place;
+            Bounds.Setting unlike = x -> {
+                x.fill(0, 1, 1, 1, 1, 1, 1, 1, 1);
+                x.fill(1, 1, 1, 1, 1, 1, 1, 1, 1);
+                x.put(0, other, 5);
+                x.put(1, other, 6);
+            };
+            Bounds.answers(15, "unlike at " + place + " alone", false, unlike,
+                    x -> x.isMixed(0, 1));
+            Bounds.answers(15, "alike at unlike places", true, unlike, x -> {
+                x.put(1, other, 1);
+                x.put(1, 7 - other, 5);
+                return x.isMixed(0, 1);
+            });
+        }
     }
 
     // 16: none, one short of all eight factors, and all.
