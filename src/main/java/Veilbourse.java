@@ -898,7 +898,10 @@ public final class Veilbourse {
     /** Reads the tree of the first row; if the root is one, unlike ways must have a break. */
     private boolean waysPart(int[] row, int[] other) {
         otherTree.grow(other);
-        for (int place = 0; otherTree.top() == tree.top() && place < PLACES; place++) {
+        if (otherTree.top() != tree.top()) {
+            return true;
+        }
+        for (int place = 0; place < PLACES; place++) {
             tree.lead(way, row, place);
             otherTree.lead(otherWay, other, place);
             if (!way.isLike(otherWay) && way.breakAgainst(otherWay) == NONE) {
@@ -1214,7 +1217,7 @@ public final class Veilbourse {
         }
 
         private static boolean isPrime(int n) {
-            for (int d = 2; d * d <= n; d++) {
+            for (int d = 2; d < n; d++) {
                 if (n % d == 0) {
                     return false;
                 }

@@ -32,9 +32,12 @@ final class Check {
         that(what + " answered " + got + ", due is " + due, due.equals(got));
     }
 
-    /** The very class that is due must come, and the object must stay as it was. */
+    /**
+     * The very class that is due must come, and the checksum must stay: more is not asked here, as
+     * an object serves 512 calls. BoundaryTest compares all that an object tells.
+     */
     static void thrown(String what, Class<? extends RuntimeException> due, Veilbourse x, Call call) {
-        List<Long> before = snapshot(x);
+        long before = x.checksum();
         String got = "an answer";
         try {
             got = "the answer " + call.answer();
@@ -42,7 +45,7 @@ final class Check {
             got = e.getClass().getName();
         }
         that(what + " gave " + got + ", due is " + due.getName(), got.equals(due.getName()));
-        that(what + " changed something", before.equals(snapshot(x)));
+        that(what + " changed nothing", before == x.checksum());
     }
 
     /** All that the face tells of an object. */

@@ -1074,6 +1074,11 @@ public final class Model {
         return notes.size() - 1;
     }
 
+    /** How many notes there are; the face does not tell it. */
+    int notes() {
+        return notes.size();
+    }
+
     public int note(int note) {
         index(within(note, notes.size()));
         return notes.get(note);
